@@ -343,13 +343,15 @@ public final class TruthScan {
     }
 
     private static int and(int a, int b) {
-        boolean unknown = has(a, UNKNOWN) && has(b, UNKNOWN | TRUE) || has(b, UNKNOWN) && has(a, UNKNOWN | TRUE);
-        return truthSet(has(a | b, FALSE), has(a & b, TRUE), unknown);
+        boolean canBeUnknown = has(a, UNKNOWN) && has(b, UNKNOWN | TRUE)
+                || has(b, UNKNOWN) && has(a, UNKNOWN | TRUE);
+        return truthSet(has(a | b, FALSE), has(a & b, TRUE), canBeUnknown);
     }
 
     private static int or(int a, int b) {
-        boolean unknown = has(a, UNKNOWN) && has(b, UNKNOWN | FALSE) || has(b, UNKNOWN) && has(a, UNKNOWN | FALSE);
-        return truthSet(has(a & b, FALSE), has(a | b, TRUE), unknown);
+        boolean canBeUnknown = has(a, UNKNOWN) && has(b, UNKNOWN | FALSE)
+                || has(b, UNKNOWN) && has(a, UNKNOWN | FALSE);
+        return truthSet(has(a & b, FALSE), has(a | b, TRUE), canBeUnknown);
     }
 
     private static boolean isAmong(Value value, Value[] values, int first, int many) {
@@ -415,8 +417,7 @@ public final class TruthScan {
 
         /** Below 0, 0 or above 0, as this value is less than, the same as or greater than the other. */
         int order(Value other) {
-            int shared = Math.min(text.length, other.text.length);
-            for (int i = 0; i < shared; i++) {
+            for (int i = 0; i < text.length && i < other.text.length; i++) {
                 int difference = (text[i] & 255) - (other.text[i] & 255);
                 if (difference != 0) {
                     return difference;
@@ -425,11 +426,12 @@ public final class TruthScan {
             if (text.length != other.text.length) {
                 return text.length - other.text.length;
             }
-            return Long.compare(number, other.number);
+            // The difference of two whole numbers may not fit.
+            return number < other.number ? -1 : number > other.number ? 1 : 0;
         }
     }
 
-    /** The rows of a column and what is known of it; these do not depend on one another later on. */
+    /** The rows of a column, and what is known of it, which stays when the rows change. */
     private static final class Column {
         final int type;
         final Value[] rows = new Value[MOST_ROWS];
@@ -601,14 +603,14 @@ public final class TruthScan {
                 int isNull = truthSet(column.mayHaveValues(), column.mayMiss(), false);
                 return kind == IS_NULL ? isNull : not(isNull);
             }
-            boolean unknown = column.mayMiss() || other != null && other.mayMiss();
+            boolean canBeUnknown = column.mayMiss() || other != null && other.mayMiss();
             if (!column.mayHaveValues() || other != null && !other.mayHaveValues()) {
-                return truthSet(false, false, unknown);
+                return truthSet(false, false, canBeUnknown);
             }
             if (kind == IN) {
-                return truthSet(canBeOutside(), canBeInside(), unknown);
+                return truthSet(canBeOutside(), canBeInside(), canBeUnknown);
             }
-            return truthSet(canCompare(contrary(operator)), canCompare(operator), unknown);
+            return truthSet(canCompare(contrary(operator)), canCompare(operator), canBeUnknown);
         }
 
         private boolean canBeInside() {

@@ -16,7 +16,8 @@ public final class PromiseTest {
         promise3Column();
         promise4Add();
         promise5AddText();
-        promise5TextRoom();
+        promise5TextRoom(false);
+        promise5TextRoom(true);
         promise6Miss();
         promise7Clear();
         promise8Literal();
@@ -115,6 +116,7 @@ public final class PromiseTest {
             due("3: column " + i, x.column(i % 3), i);
         }
         due("3: no seventeenth", x.column(WHOLE), NONE);
+        due("3: nor one to miss in", x.miss(16, 1), false);
         x.step(0, 15, 0, 0, 0);
         due("3: nothing is known of it", x.can(), 3);
         due("3: it has no rows", x.scan(1), NONE);
@@ -185,13 +187,18 @@ public final class PromiseTest {
         due("5: the text was cut off even so", x.literalText(1), NONE);
     }
 
-    private static void promise5TextRoom() {
+    private static void promise5TextRoom(boolean clearedBefore) {
         TruthScan x = new TruthScan();
         x.column(TEXT);
         x.column(TEXT);
         feedMany(x, 13);
         due("5: longer than 255", x.addText(0, 256), false);
         due("5: that was cut off", x.addText(0, 1), false);
+        if (clearedBefore) {
+            feedMany(x, 1);
+            x.addText(0, 1);
+            x.clear(0);
+        }
         for (int i = 0; i < 31; i++) {
             feedMany(x, 13);
             due("5: a long text " + i, x.addText(0, 255), true);
@@ -656,10 +663,12 @@ public final class PromiseTest {
         x.add(0, 201, 1);
         due("16: one above GREATEST", x.dictionary(0), false);
         x.clear(0);
+        x.add(0, 100, 1);
         x.add(0, -1, 1);
         due("16: one below LEAST", x.dictionary(0), false);
+        canDue("16: nothing of a refused one", x, WHOLE, 0, 0, 100, 1);
         x.clear(0);
-        due("16: no rows", x.dictionary(0), false);
+        due("16: no rows, whatever was there", x.dictionary(0), false);
         x.miss(0, 4);
         due("16: no values", x.dictionary(0), false);
         canDue("16: the old one stays", x, WHOLE, 0, 0, 100, 1);
@@ -685,6 +694,9 @@ public final class PromiseTest {
         due("16: no LEAST", x.dictionary(0), false);
         x.known(0, 5, 5);
         due("16: a LEAST of rows that have values", x.dictionary(0), true);
+        x.add(0, 2, 999);
+        x.known(0, 5, 0);
+        due("16: a thousand rows of two values", x.dictionary(0), true);
 
         TruthScan y = new TruthScan();
         y.column(TEXT);
@@ -826,7 +838,8 @@ public final class PromiseTest {
         x.known(0, 2, 0);
         x.dictionary(0);
         inDue("18: IN with a dictionary, both", x, 2, 20, 10);
-        inDue("18: IN with a dictionary, one", x, 3, 5, 10);
+        inDue("18: IN with a dictionary, the first", x, 3, 5, 10);
+        inDue("18: IN with a dictionary, the second", x, 3, 20, 5);
         inDue("18: IN with a dictionary, none", x, 1, 5, 15);
         x.clear(0);
         x.add(0, 7, 1);
