@@ -43,6 +43,8 @@ public final class RefusalTest {
         refuseWhereFull();
         refuseTextsWhereFull();
         refuseDictionaries();
+        refuseNoCondition();
+        refuseForWantOfRoom();
         System.out.println(wrong == 0 ? "refused calls leave all as it was" : wrong + " answers are not as due");
         if (wrong != 0) {
             System.exit(1);
@@ -272,6 +274,76 @@ public final class RefusalTest {
         });
     }
 
+    /** Steps that are no condition: the refused calls leave them so, and the scan before as it was. */
+    private static void refuseNoCondition() {
+        for (int n : new int[] {-1, 0, 1, 4, 5, 1000, 1001, MIN, MAX}) {
+            TruthScan x = ordinary();
+            x.step(NOT_NULL, 1, 0, 0, 0);
+            refused = "scan(" + n + ") where two wait";
+            due("the call", x.scan(n), NONE);
+            noConditionStands(x);
+        }
+        TruthScan x = ordinary();
+        x.step(NOT_NULL, 1, 0, 0, 0);
+        refused = "can() where two wait";
+        due("the call", x.can(), NONE);
+        noConditionStands(x);
+    }
+
+    private static void noConditionStands(TruthScan x) {
+        latestScanStands(x);
+        due("how many literals", x.literal(WHOLE, 0), 4);
+        due("how many steps", x.step(AND, 0, 0, 0, 0), 7);
+        due("can, as one waits now", x.can(), 7);
+        due("scan, as one waits now", x.scan(4), 1);
+        truthsDue("the condition", x, "1000");
+        restStands(x, false);
+    }
+
+    /** A column whose texts have 8000 bytes refuses one more byte, and keeps all that it has. */
+    private static void refuseForWantOfRoom() {
+        for (int n : new int[] {1, 20}) {
+            TruthScan x = new TruthScan();
+            x.column(TEXT);
+            x.column(WHOLE);
+            x.add(1, 5, 33);
+            x.miss(1, 1);
+            for (int i = 0; i < 34; i++) {
+                feedMany(x, i < 33 ? 12 : 4);
+                x.addText(0, i < 33 ? 240 : 80);
+            }
+            x.known(0, 34, 0);
+            x.literal(WHOLE, 5);
+            x.step(WITH_LITERAL, 1, EQUAL, 0, 0);
+            x.scan(34);
+            feedMany(x, 1);
+            refused = "addText of " + n + " to 8000 bytes";
+            due("the call", x.addText(0, n), false);
+            fullTextsStand(x);
+        }
+    }
+
+    private static void fullTextsStand(TruthScan x) {
+        due("the text was cut off", x.literalText(1), NONE);
+        due("the first row", x.truth(0), 1);
+        due("the last row", x.truth(33), 2);
+        due("no row behind", x.truth(34), NONE);
+        due("the last chosen", x.chosen(32), 32);
+        due("no other chosen", x.chosen(33), NONE);
+        due("the condition", x.scan(34), 33);
+        due("how many literals", x.literal(WHOLE, 0), 1);
+        due("how many steps", x.step(NOT, 0, 0, 0, 0), 1);
+        x.forget();
+        x.step(NOT_NULL, 0, 0, 0, 0);
+        due("all the texts", x.scan(34), 34);
+        due("and no more", x.scan(35), NONE);
+        due("what is known", x.can(), 2);
+        feedMany(x, 1);
+        due("no byte more", x.addText(0, 1), false);
+        due("but an empty text", x.addText(0, 0), true);
+        due("how many columns", x.column(WHOLE), 2);
+    }
+
     private interface Change {
         void make(TruthScan x);
     }
@@ -351,15 +423,24 @@ public final class RefusalTest {
 
     private static void ordinaryStands(String call, TruthScan x, boolean cut) {
         refused = call;
-        truthsDue("the latest scan", x, "0121");
-        due("its first chosen", x.chosen(0), 1);
-        due("its second chosen", x.chosen(1), 3);
-        due("its third chosen", x.chosen(2), NONE);
+        latestScanStands(x);
         due("can", x.can(), 7);
         due("the condition's scan", x.scan(4), 1);
         truthsDue("the condition", x, "1020");
         due("how many literals", x.literal(WHOLE, 0), 4);
         due("how many steps", x.step(NOT, 0, 0, 0, 0), 6);
+        restStands(x, cut);
+    }
+
+    private static void latestScanStands(TruthScan x) {
+        truthsDue("the latest scan", x, "0121");
+        due("its first chosen", x.chosen(0), 1);
+        due("its second chosen", x.chosen(1), 3);
+        due("its third chosen", x.chosen(2), NONE);
+    }
+
+    /** What is there beside steps, literals and the latest scan. */
+    private static void restStands(TruthScan x, boolean cut) {
         tapeStands(x, cut);
         ordinaryValuesStand(x);
         ordinaryKnowledgeStands(x);
