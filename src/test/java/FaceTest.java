@@ -1,3 +1,5 @@
+import java.io.DataInputStream;
+import java.io.IOException;
 import java.lang.reflect.Constructor;
 import java.lang.reflect.Field;
 import java.lang.reflect.Method;
@@ -24,11 +26,20 @@ public final class FaceTest {
         "\"", "\\b(equals|hashCode|toString|getClass)\\b", "\\bstatic\\s*\\{", "\\bnull\\s*\\.",
     };
 
+    // What the class calls; LANGUAGE.md lists more.
+    private static final Set<String> LIBRARY = Set.of("java/lang/Object.<init>", "java/util/Arrays.copyOf");
+    private static final Set<Class<?>> CONSTANT_TYPES = Set.of(int.class, long.class, boolean.class, char.class,
+            String.class, int[].class, long[].class, char[].class, byte[].class);
+
     private static int wrong = 0;
 
     public static void main(String[] args) throws Exception {
         checkMembers();
         checkNested();
+        checkCalls(TruthScan.class);
+        for (Class<?> inside : TruthScan.class.getDeclaredClasses()) {
+            checkCalls(inside);
+        }
         checkSource(Files.readString(Path.of(args.length > 0 ? args[0] : "src/main/java/TruthScan.java")));
         System.out.println(wrong == 0 ? "the face is as due" : wrong + " things are not as due");
         if (wrong != 0) {
@@ -69,6 +80,7 @@ public final class FaceTest {
             int modifiers = field.getModifiers();
             due("private, or NONE: " + field, constant ? Modifier.isPublic(modifiers) : Modifier.isPrivate(modifiers));
             due("static fields are final: " + field, !Modifier.isStatic(modifiers) || Modifier.isFinal(modifiers));
+            due("a constant: " + field, !Modifier.isStatic(modifiers) || CONSTANT_TYPES.contains(field.getType()));
         }
     }
 
@@ -89,6 +101,43 @@ public final class FaceTest {
         }
         for (Method method : TruthScan.class.getDeclaredMethods()) {
             due("at most seven parameters: " + method, method.getParameterCount() <= 7);
+        }
+    }
+
+    /** What a class calls stands in the constant pool of its file. */
+    private static void checkCalls(Class<?> compiled) throws IOException {
+        try (DataInputStream in = new DataInputStream(compiled.getResourceAsStream(compiled.getName() + ".class"))) {
+            in.skipBytes(8);
+            int size = in.readUnsignedShort();
+            String[] texts = new String[size];
+            int[] tags = new int[size];
+            int[] first = new int[size];
+            int[] second = new int[size];
+            for (int i = 1; i < size; i++) {
+                tags[i] = in.readUnsignedByte();
+                switch (tags[i]) {
+                    case 1 -> texts[i] = in.readUTF();
+                    case 7, 8, 16, 19, 20 -> first[i] = in.readUnsignedShort();
+                    case 15 -> in.skipBytes(3);
+                    case 3, 4 -> in.skipBytes(4);
+                    case 5, 6 -> {
+                        in.skipBytes(8);
+                        i++;
+                    }
+                    default -> {
+                        first[i] = in.readUnsignedShort();
+                        second[i] = in.readUnsignedShort();
+                    }
+                }
+            }
+            for (int i = 1; i < size; i++) {
+                due("no call site made at run time in " + compiled, tags[i] != 18 && tags[i] != 17);
+                if (tags[i] == 10 || tags[i] == 11) {
+                    String owner = texts[first[first[i]]];
+                    String call = owner + "." + texts[first[second[i]]];
+                    due("a listed call: " + call, owner.startsWith("TruthScan") || LIBRARY.contains(call));
+                }
+            }
         }
     }
 
